@@ -845,6 +845,8 @@ public final class OtherSelves {
 
     /** Reads the TAPE as a TASTE; depth tells how many of ( [ ! are open. */
     private static final class TasteReader {
+        private static final int MOST_WITHIN = 6;
+
         final Tape tape;
 
         TasteReader(Tape tape) {
@@ -935,7 +937,7 @@ public final class OtherSelves {
 
         /** Goes behind one of ( [ !, unless six are open. */
         private boolean goesIn(int depth) {
-            if (depth >= MOST_DEEP) {
+            if (depth >= MOST_WITHIN) {
                 tape.fail();
                 return false;
             }

@@ -241,6 +241,9 @@ public final class FaultTests {
         lifeAt("lg100", 4);
         lifeAt("ld999", 4);
         lifeAt("ly000", 4);
+        lifeAt("lg099", 4);
+        lifeAt("ly001", 4);
+        lifeAt("lt0091", 4);
         lifeAt("lg1 2", 4);
         lifeAt("ly0", 2);
         lifeAt("ly00", 3);
@@ -273,6 +276,8 @@ public final class FaultTests {
         lifeAt("f(y1:l", 2);
         lifeAt("f(w9g99j99o99x9:l;:l)", -1);
         lifeAt("f(w1g100", 7);
+        lifeAt("fk0y99(w1g0j0o0x0:l;:l)", -1);
+        lifeAt("fk01(w09x09:l;:l)", -1);
         lifeAt("f(:l)", 4);
         lifeAt("f(:l;:l", 7);
         lifeAt("f(:l;:l)", -1);
@@ -335,6 +340,8 @@ public final class FaultTests {
         tasteAt("y:!!!!!!!g=1?1", 8);
         tasteAt("y:[[[[[[g]]]]]]", -1);
         tasteAt("y:[[[[[[[", 8);
+        tasteAt("y:[[[[[[g]]]]]]=[[[[[[g]]]]]]?[[[[[[g]]]]]];y:[[[[[[g]]]]]]", -1);
+        tasteAt("y:g=1?[[[[[[[", 12);
         tasteAt("y:((((((g=1))))))?1", -1);
         tasteAt("y:(((((((", 8);
         tasteAt("y:!(!(!([", 8);

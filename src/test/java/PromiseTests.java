@@ -69,6 +69,12 @@ public final class PromiseTests {
         due("nineteen more", x.feed(blanks, blanks, blanks, blanks, 0x20202000), 239);
         due("two too many", x.feed(0x20200000, 0, 0, 0, 0), NONE);
         due("which changed nothing", x.count(5), 239);
+        int[] two = new int[5];
+        for (int i = 0; i < 5; i++) {
+            two[i] = 0x20200000;
+            due("two too many as number " + i, x.feed(two[0], two[1], two[2], two[3], two[4]), NONE);
+            two[i] = 0;
+        }
         due("the last byte", x.feed(0, 0, 0, 0, 0x6c), 240);
         due("nothing more fits", x.feed(0, 0, 0, 0, 0), 240);
         due("one too many", x.feed(0, 1, 0, 0, 0), NONE);
@@ -251,6 +257,42 @@ public final class PromiseTests {
         row("no life", of(y.set(0, 1), y.set(1, 0), y.set(3, 1)), NONE, NONE, NONE);
     }
 
+    /** All that ACTS change, in one number. */
+    private static int acted(OtherSelves x) {
+        int bits = x.count(7) + 4 * x.count(10) + 16 * (x.count(8) + 1) + 64 * (x.count(9) + 1);
+        for (int i = 0; i < 6; i++) {
+            bits |= x.branch(i / 3, i % 3, 5) << 10 + i;
+        }
+        return bits;
+    }
+
+    private static int act(OtherSelves x, int i) {
+        switch (i % 5) {
+            case 0: return x.open(0, i % 3, x.branch(0, i % 3, 5) == 0);
+            case 1: return x.open(1, i % 3, x.branch(1, i % 3, 5) == 0);
+            case 2: return x.set(0, (x.count(7) + 1) % 4);
+            case 3: return x.set(3, (x.count(10) + 3) % 4);
+            default: return x.set(1 + i % 2, x.count(8 + i % 2) == 0 ? NONE : 0);
+        }
+    }
+
+    private static void undoesForty() {
+        OtherSelves x = Due.at(LIFE, "y:g");
+        int[] before = new int[200];
+        int done = 0;
+        for (int i = 0; i < 70; i++) {
+            before[done] = acted(x);
+            int answer = act(x, i);
+            done += answer == NONE ? 0 : 1;
+            due("how many can be undone", answer, answer == NONE ? NONE : Math.min(40, done));
+        }
+        for (int i = 1; i <= 40; i++) {
+            due("undone", x.undo(), 40 - i);
+            due("as it was, " + i + " acts back", acted(x), before[done - i]);
+        }
+        due("forty alone", x.undo(), NONE);
+    }
+
     private static void promise14Undo() {
         OtherSelves x = Due.at(LIFE, "y:g");
         due("nothing yet", x.undo(), NONE);
@@ -270,6 +312,7 @@ public final class PromiseTests {
         }
         due("the five before stay", x.count(10), 1);
         due("none any more", x.undo(), NONE);
+        undoesForty();
         due("no life", new OtherSelves().undo(), NONE);
     }
 
@@ -530,6 +573,7 @@ public final class PromiseTests {
     private static void promise30Ring() {
         due("a ring", Due.at(THREE, worths(3, 1, 2), worths(2, 3, 1), worths(1, 2, 3)).ring(), 12);
         due("the other way round", Due.at(THREE, worths(3, 1, 2), worths(1, 2, 3), worths(2, 3, 1)).ring(), 21);
+        due("the last one has no more", Due.at(THREE, worths(3, 3, 3), worths(2, 2, 4), worths(1, 3, 3)).ring(), NONE);
         due("behind others", Due.at(THREE, "y:0", worths(3, 1, 2), worths(1, 2, 3), worths(2, 3, 1)).ring(), 132);
         due("the least of several", Due.at(THREE, worths(3, 1, 2), worths(1, 2, 3), worths(1, 2, 3), worths(2, 3, 1),
             worths(2, 3, 1)).ring(), 31);
@@ -615,6 +659,9 @@ public final class PromiseTests {
             14, 0, 0, 17, 31, 31, 14, 0, 7, 6, 31, 8, 8, 0);
         row("parting", of(by(5, 1, 1), by(5, 1, 0), by(5, 0, 0), by(5, 0, 1), by(5, 5, 0), by(5, 99, 0), by(5, 1, 2)),
             12, 17, 30, 0, 0, 0, 0);
+        OtherSelves y = Due.at("f(x9:l;x8:l)");
+        y.clue(0, 9, 0);
+        due("the last fact", y.can(0), 1);
         OtherSelves x = Due.at(LIFE);
         row("no clue", of(x.can(0), x.can(1)), 31, 0);
         x.set(0, 3);
@@ -649,6 +696,13 @@ public final class PromiseTests {
         due("whatever is open", x.cross(0, 100), 2);
         row("no such, one life", of(x.cross(0, 1), x.cross(0, 0), x.cross(0, 102 + 1), x.cross(2, 100), x.cross(-1, 100),
             x.cross(0, 300), x.cross(0, LEAST), x.cross(MOST, 0)), NONE, NONE, NONE, NONE, NONE, NONE, NONE, NONE);
+        Due.tape(x, "l");
+        x.fault(0);
+        due("a text that is only looked at is no life", x.cross(0, 300), NONE);
+        OtherSelves y = Due.at("l");
+        Due.tape(y, "l");
+        y.fault(0);
+        due("nor is it the second", y.cross(0, 100), NONE);
         due("no life", new OtherSelves().cross(0, 100), NONE);
     }
 
