@@ -493,15 +493,11 @@ public final class OtherSelves {
         }
 
         void want(int wanted) {
-            if (!takes(wanted)) {
-                fail();
+            if (sign() == wanted) {
+                at++;
+            } else {
+                failAt(at);
             }
-        }
-
-        /** The next sign can't stand here. */
-        void fail() {
-            sign();
-            failAt(at);
         }
 
         /** Behind a fault every reader sees the end, so that all its loops end. */
@@ -537,7 +533,7 @@ public final class OtherSelves {
 
         int finish() {
             if (sign() != NONE) {
-                fail();
+                failAt(at);
             }
             return wrong;
         }
@@ -569,7 +565,7 @@ public final class OtherSelves {
                     return;
                 }
                 if ((seen >> item & 1) == 1) {
-                    tape.fail();
+                    tape.failAt(tape.at);
                     return;
                 }
                 seen |= 1 << item;
@@ -693,7 +689,7 @@ public final class OtherSelves {
             if (sign == 'f' && depth < MOST_DEEP && life.forks < MOST_FORKS) {
                 return readFork(life, depth);
             }
-            tape.fail();
+            tape.failAt(tape.at);
             return NONE;
         }
 
@@ -750,7 +746,7 @@ public final class OtherSelves {
                     break;
                 }
                 if (branch == MOST_BRANCHES - 1 || !tape.takes(';')) {
-                    tape.fail();
+                    tape.failAt(tape.at);
                     break;
                 }
             }
@@ -839,7 +835,10 @@ public final class OtherSelves {
                 case '&': number = left & right; break;
                 default: number = left | right; break;
             }
-            return (int) Math.max(-BOUND, Math.min(BOUND, number));
+            if (number > BOUND) {
+                return BOUND;
+            }
+            return number < -BOUND ? -BOUND : (int) number;
         }
     }
 
@@ -927,7 +926,7 @@ public final class OtherSelves {
             }
             int sign = tape.sign();
             if (!compares(sign)) {
-                tape.fail();
+                tape.failAt(tape.at);
                 return;
             }
             tape.at++;
@@ -938,7 +937,7 @@ public final class OtherSelves {
         /** Goes behind one of ( [ !, unless six are open. */
         private boolean goesIn(int depth) {
             if (depth >= MOST_WITHIN) {
-                tape.fail();
+                tape.failAt(tape.at);
                 return false;
             }
             tape.at++;

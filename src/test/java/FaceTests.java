@@ -66,9 +66,40 @@ public final class FaceTests {
             DUE.due(field + " is private", Modifier.isPrivate(modifiers), !told);
             DUE.due(field + " is final if static", !Modifier.isStatic(modifiers) || Modifier.isFinal(modifiers), true);
         }
+        DUE.due("NONE", OtherSelves.NONE, -1);
+        DUE.due("HIDDEN", OtherSelves.HIDDEN, -2000000000);
+        constants();
+        thrown();
         Constructor<?>[] made = OtherSelves.class.getDeclaredConstructors();
         DUE.due("constructors", made.length * 10 + made[0].getParameterCount(), 10);
+        DUE.due("the constructor is public", Modifier.isPublic(made[0].getModifiers()), true);
         DUE.due("public and final", OtherSelves.class.getModifiers(), Modifier.PUBLIC | Modifier.FINAL);
+        DUE.due("no class above it", OtherSelves.class.getSuperclass() == Object.class, true);
+        DUE.due("no interface", OtherSelves.class.getInterfaces().length, 0);
+    }
+
+    private static void constants() {
+        for (Field field : OtherSelves.class.getDeclaredFields()) {
+            if (Modifier.isPublic(field.getModifiers())) {
+                DUE.due(field + " is an int", field.getType() == int.class, true);
+                DUE.due(field + " is a constant", field.getModifiers(), Modifier.PUBLIC | Modifier.STATIC | Modifier.FINAL);
+            }
+        }
+        for (Class<?> inside : OtherSelves.class.getDeclaredClasses()) {
+            int seen = inside.getModifiers() & (Modifier.PUBLIC | Modifier.PROTECTED);
+            DUE.due(inside + " can't be seen from outside", seen, 0);
+        }
+    }
+
+    /** self alone tells that it throws, and what. */
+    private static void thrown() {
+        for (Method method : OtherSelves.class.getDeclaredMethods()) {
+            Class<?>[] thrown = method.getExceptionTypes();
+            boolean isSelf = method.getName().equals("self");
+            DUE.due(method + " tells of exceptions", thrown.length, isSelf ? 1 : 0);
+            DUE.due(method + " tells of its own", !isSelf || thrown[0] == NoSuchElementException.class, true);
+            DUE.due(method + " is static", Modifier.isStatic(method.getModifiers()), false);
+        }
     }
 
     private static Object wild(Class<?> type) {
